@@ -17,7 +17,7 @@ public final class StoneWed {
 
     private final Rows rows = new Rows();
     private final Tape tape = new Tape();
-    private final Reader reader = new Reader();
+    private final Reader reader = new Reader(tape);
     private final Valley valley = new Valley();
     private final Valley[] images = {new Valley(), new Valley()};
     private final Acts acts = new Acts();
@@ -93,7 +93,7 @@ public final class StoneWed {
     }
 
     public int valley() {
-        int fault = reader.read(tape);
+        int fault = reader.read();
         tape.empty();
         if (fault != 0) {
             latestFault = fault;
@@ -513,12 +513,16 @@ public final class StoneWed {
         private static final int NO_BED = 9;
 
         final Valley told = new Valley();
-        private Tape tape;
+        private final Tape tape;
         int place;
         private int fault;
 
-        int read(Tape from) {
-            tape = from;
+        Reader(Tape tape) {
+            this.tape = tape;
+        }
+
+        /** The number of the fault; 0, if there is none. */
+        int read() {
             place = 0;
             fault = 0;
             told.clear();

@@ -79,7 +79,7 @@ public final class LanguageTest {
         fields(inside);
         for (Method m : inside.getDeclaredMethods()) {
             check(m.getParameterCount() <= 7, m + " has at most seven parameters");
-            check(!FACE.contains(m.getName() + "(" + m.getParameterCount() + ")"), m + " bears a public name");
+            check(FACE.stream().noneMatch(open -> open.startsWith(m.getName() + "(")), m + " bears a public name");
         }
     }
 

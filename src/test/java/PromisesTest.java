@@ -39,6 +39,7 @@ public final class PromisesTest {
         texts();
         faults();
         days();
+        worn();
         lastDay();
         acts();
         undoing();
@@ -195,7 +196,7 @@ public final class PromisesTest {
         due("7: all stays", x.count(3), 3);
         due("7: acts stay", x.count(6), 3);
         due("7: the tape does not", x.count(7), 0);
-        tell(x, TEXT);
+        due("7: a good one behind it", tell(x, TEXT), 4);
         due("8: the latest one", x.fault(), number);
     }
 
@@ -215,6 +216,12 @@ public final class PromisesTest {
         fault("m1,1;b1,1,1", 11, 1);
         fault("m1,1;b1,001,1;", 8, 1);
         fault("m1,1;b1,1,1;b1,1,1;b1,1,1;b1,1,1;b1,1,1;", 33, 3);
+        fault("m1,1;b10,1,1;", 6, 2);
+        fault("m1,1;b1,10,1;", 8, 2);
+        fault("m1,1;b1,1,10;", 10, 2);
+        fault("m1,1;b1,1,1;g10,1,1,9;", 13, 2);
+        fault("m1,1;b1,1,1;g1,10,1,9;", 15, 2);
+        fault("m1,1;b1,1,1;g1,1,10,9;", 17, 2);
         fault("m1,1;b1,1,1;x1,1,1,9;", 12, 1);
         fault("m1,1;b1,1,1;5", 12, 1);
         fault("m1,1;b1,1,1;g1,1,1;", 18, 1);
@@ -239,6 +246,31 @@ public final class PromisesTest {
         due("9: FLOUR", x.bed(0, 4), 17);
         due("9: FLOUR", x.bed(1, 4), 26);
         due("9: DAY", x.count(3), 3);
+    }
+
+    private static void worn() {
+        StoneWed x = told("m1,9;b0,1,0;b0,1,0;b0,0,0;b0,9,0;g0,1,0,0;s0,0,0,1;f0,1,0,2;");
+        due("9: a DAY", x.days(1), 2 + 1 + 2);
+        int[] none = {0, 0, 0};
+        for (int i = 0; i < 3; i++) {
+            due("9: FURROW of runner " + i, x.runner(i, 1), none[i]);
+            due("9: FURROW of bed " + i, x.bed(i, 1), none[i]);
+        }
+        due("9: a bed on which none lies", x.bed(3, 1), 9);
+        due("9: 0 at least", x.days(9), 0);
+        due("9: 0 at least", x.runner(0, 1), 0);
+        due("9: 0 at least", x.bed(1, 1), 0);
+        due("18: four beds", x.flourOfAll(60), 5);
+        due("33: FLOUR of four beds", x.count(4), 5);
+        due("33: three lie", x.count(5), 3);
+        fraction(x, 1, 3, 0, 1);
+        x.dress(4);
+        x.dress(7);
+        fraction(x, 9, 3, 7, 10);
+        StoneWed often = told("m3,9;b0,9,0;s0,9,0,0;");
+        due("9: LASTS 3, DAYS 0 to 3", often.days(4), 18 + 15 + 14 + 13);
+        due("9: the runner wears on DAYS 0 and 3", often.runner(0, 1), 7);
+        due("9: the bed on all, twice on these", often.bed(0, 1), 3);
     }
 
     private static void lastDay() {
@@ -295,6 +327,12 @@ public final class PromisesTest {
         due("13: a stone dressed", x.undo(), 0);
         due("13: FURROW", x.bed(0, 1), 5);
         due("13: none", x.undo(), STATE);
+        x.days(1);
+        x.days(1);
+        x.undo();
+        due("13: FLOUR as it was", x.bed(0, 4), 7);
+        due("13: FLOUR as it was", x.bed(1, 4), 11);
+        x.undo();
         x.dress(0);
         x.days(24);
         due("13: 24 at most", x.count(6), 24);
@@ -369,6 +407,14 @@ public final class PromisesTest {
         x.wed(1, 0);
         due("19: none", x.blocks(0), 0);
         due("19: none", x.blocks(1), NONE);
+        StoneWed same = told("m1,9;b0,4,0;b0,4,0;b0,3,0;g0,1,0,0;g0,1,0,1;g0,1,0,9;");
+        due("19: as much as where it lies, or as the other one, is not more", same.blocks(0), 1);
+        due("19: but more than nothing", same.blocks(1), 22);
+        StoneWed one = told("m1,9;b0,0,0;b0,0,1;g0,1,0,9;g0,0,0,9;");
+        due("19: 1 is more than nothing, 0 is not", one.blocks(0), 2);
+        due("20: 1 is more than nothing", one.stable(0), 0);
+        due("20: 0 is not", one.stable(1), NONE);
+        due("19: as much on a free bed is not more", told("m1,9;b0,4,0;b0,4,0;g0,1,0,0;").blocks(0), 0);
         x.part(2);
         due("19: on a free bed", x.blocks(0), 3);
         due("19: the first on a free bed", x.blocks(1), 1);
@@ -418,6 +464,8 @@ public final class PromisesTest {
             due("22: as much as can be, k " + k, x.moved(1, 37, k), move[k + 1]);
             due("22: too much, k " + k, x.moved(1, 38, k), NONE);
         }
+        due("21: most behind moved", x.most(1, -1), 37);
+        due("22: q 999", x.moved(60, 999, -1), NONE);
         due("22: k", x.moved(1, 1, 4), BAD);
         due("22: k", x.moved(1, 1, -2), BAD);
         due("22: q", x.moved(1, 1000, 0), BAD);
@@ -462,6 +510,9 @@ public final class PromisesTest {
         rocks.row(0, 0, 1);
         rocks.set(0, 0, 3);
         due("24: rocks on both sides", rocks.fits(0, 0, 0, 1, 2), 1 << 1 | 1 << 5);
+        x.wed(3, 0);
+        x.set(0, 0, 5);
+        due("24: SORTS, a widow", x.fits(0, 0, 0, 1, 1), 32);
         StoneWed idle = told("m1,9;b9,0,0;g5,0,0,0;");
         idle.row(0, 0, 16);
         due("24: all rocks", idle.fits(0, 0, 0, 16, 2), 1023);
@@ -517,6 +568,13 @@ public final class PromisesTest {
         due("26: FURROWS then", x.drawn(2, 1, 1), 31);
         // 3 times 16807 is a multiple of 3 and leaves 1 by 4: runner 1, that lies nowhere.
         due("26: a runner is dressed", x.drawn(1, 3, 0), 18);
+        due("26: FURROWS then", x.drawn(1, 3, 1), 4 + 9 + 3 + 5 + 5 + 8 - 5);
+        // 6 leaves 2 by 4, 24 leaves 0 by 4; 2 leaves 2 by 3; each times 16807, that leaves 1 by 3 and 3 by 4.
+        due("26: the runner that sparks is dressed", x.drawn(1, 6, 0), 18 + 6);
+        due("26: the first runner is dressed", x.drawn(1, 24, 0), 18 + 5);
+        due("26: none is dressed", x.drawn(1, 2, 1), 29);
+        due("26: another bed", x.drawn(1, 4, 0), 18 + 4);
+        due("26: SEED 999999 is none too many", x.drawn(0, 999999, 0), 0);
         due("26: n", x.drawn(61, 1, 0), BAD);
         due("26: SEED 0", x.drawn(1, 0, 0), BAD);
         due("26: SEED", x.drawn(1, 1000000, 0), BAD);
