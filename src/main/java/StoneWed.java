@@ -1056,7 +1056,8 @@ public final class StoneWed {
      * so each pair is tried once, and weddings are weighed by adding.
      */
     private static final class Weddings {
-        private static final int NOT_FOUND = Integer.MIN_VALUE;
+        // Less than any weddings are worth: nothing, or as many moves as there are runners.
+        private static final int NOT_FOUND = -ROOM - 1;
 
         private final Valley then = new Valley();
         private final int[][] worth = new int[ROOM][ROOM];

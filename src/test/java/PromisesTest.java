@@ -1,35 +1,8 @@
 /** Promise by promise, with answers that were worked out by hand from the document. */
-public final class PromisesTest {
-    private static final int NONE = -1000000, BAD = -1000001, STATE = -1000002, FULL = -1000003;
-    private static final int NULL = -1000011, PLACE = -1000012, KIND = -1000013, SIZE = -1000014, STORE = -1000015;
-
+public final class PromisesTest extends Due {
     // LASTS 2, PEACE 3; of the runners the gritty one lies on bed 0, the one that sparks on bed 1.
     private static final String TEXT =
             "m2,3;b1,5,2;b9,8,9;g3,4,4,0;f0,9,0,9;s9,3,9,1;o5,5,5,9;";
-
-    private static int wrong;
-    private static int due;
-
-    private static void due(String what, int got, int want) {
-        due++;
-        if (got != want) {
-            wrong++;
-            System.out.println(what + ": answered " + got + ", due is " + want);
-        }
-    }
-
-    private static int tell(StoneWed x, String text) {
-        for (int i = 0; i < text.length(); i++) {
-            x.feed(text.charAt(i));
-        }
-        return x.valley();
-    }
-
-    private static StoneWed told(String text) {
-        StoneWed x = new StoneWed();
-        tell(x, text);
-        return x;
-    }
 
     public static void main(String[] args) {
         newObject();
@@ -60,10 +33,7 @@ public final class PromisesTest {
         asks();
         counts();
         statuses();
-        System.out.println(due + " answers, " + wrong + " not as due");
-        if (wrong != 0) {
-            System.exit(1);
-        }
+        end();
     }
 
     private static void newObject() {
