@@ -20,6 +20,8 @@ public final class LanguageTest {
             "blocks(1)", "stable(1)", "most(2)", "moved(3)", "dressing(2)", "fits(5)", "breaks(3)", "drawn(3)",
             "image(1)", "restore(1)", "kind(1)", "as(2)", "ask(2)", "trace(1)", "count(1)", "status(0)"));
     private static final Set<String> CONSTANTS = Set.of("NONE", "BAD", "STATE", "FULL");
+    private static final Set<String> LIBRARY = Set.of("Arrays.fill", "Arrays.copyOf", "Arrays.copyOfRange",
+            "System.arraycopy", "Math.abs", "Math.max", "Math.min", "Math.floorDiv", "Math.floorMod");
     private static final String[] NOT_WRITTEN = {
             "\\bthrow\\b", "\\btry\\b", "\\bcatch\\b", "\\bsynchronized\\b", "\\bassert\\b", "->", "::",
             "\\bnew\\s+\\w+\\s*\\([^)]*\\)\\s*\\{", "\\bpackage\\b", "\\bObject\\b", "Exact\\b"};
@@ -106,10 +108,22 @@ public final class LanguageTest {
             check(Set.of("java.util.Arrays", "java.util.ArrayList", "java.util.List").contains(imports.group(1)),
                     imports.group());
         }
+        library(code);
         // A method of the file ends with the brace that stands as far in as its head.
         Matcher methods = Pattern.compile("(?m)^( {4}| {8})(?! )[^\n]*\\([^\n]*\\) \\{\n(?s:.*?)\n\\1\\}$").matcher(code);
         while (methods.find()) {
             check(methods.group().lines().count() <= 60, "some sixty lines: " + methods.group().lines().findFirst());
+        }
+    }
+
+    private static void library(String code) {
+        Set<String> own = new TreeSet<>();
+        for (Class<?> inside : StoneWed.class.getDeclaredClasses()) {
+            own.add(inside.getSimpleName());
+        }
+        Matcher uses = Pattern.compile("\\b([A-Z][a-z]\\w*)\\.\\w+").matcher(code);
+        while (uses.find()) {
+            check(own.contains(uses.group(1)) || LIBRARY.contains(uses.group()), "the library has " + uses.group());
         }
     }
 
