@@ -16,8 +16,7 @@ public final class StoneWed {
     private static final int IMAGES = 2;
 
     private final Rows rows = new Rows();
-    private final Tape tape = new Tape();
-    private final Reader reader = new Reader(tape);
+    private final Reader reader = new Reader();
     private final Valley valley = new Valley();
     private final Valley[] images = {new Valley(), new Valley()};
     private final Acts acts = new Acts();
@@ -89,12 +88,12 @@ public final class StoneWed {
         if (letter < 0 || letter > 255) {
             return BAD;
         }
-        return tape.isFull() ? FULL : tape.append(letter);
+        return reader.tape.isFull() ? FULL : reader.tape.append(letter);
     }
 
     public int valley() {
         int fault = reader.read();
-        tape.empty();
+        reader.tape.empty();
         if (fault != 0) {
             latestFault = fault;
             return FAULTS - reader.place;
@@ -375,7 +374,7 @@ public final class StoneWed {
             case 4: return valley.allFlour();
             case 5: return valley.howManyLie();
             case 6: return acts.kept;
-            case 7: return tape.length;
+            case 7: return reader.tape.length;
             default: return BAD;
         }
     }
@@ -512,14 +511,10 @@ public final class StoneWed {
         private static final int FIGURES = 2;
         private static final int NO_BED = 9;
 
+        final Tape tape = new Tape();
         final Valley told = new Valley();
-        private final Tape tape;
         int place;
         private int fault;
-
-        Reader(Tape tape) {
-            this.tape = tape;
-        }
 
         /** The number of the fault; 0, if there is none. */
         int read() {
@@ -1167,16 +1162,17 @@ public final class StoneWed {
                 weigh(ground, moves);
                 return;
             }
-            int lies = now.bedOf[runner];
             for (int bed = 0; bed < now.beds; bed++) {
                 if ((taken >> bed & 1) == 0) {
-                    tried[runner] = bed;
-                    int more = worth[runner][bed];
-                    choose(runner + 1, taken | 1 << bed, ground + more, lies == bed ? moves : moves + 1);
+                    tryOn(bed, runner, taken | 1 << bed, ground + worth[runner][bed], moves);
                 }
             }
-            tried[runner] = NONE;
-            choose(runner + 1, taken, ground, lies == NONE ? moves : moves + 1);
+            tryOn(NONE, runner, taken, ground, moves);
+        }
+
+        private void tryOn(int bed, int runner, int taken, int ground, int moves) {
+            tried[runner] = bed;
+            choose(runner + 1, taken, ground, now.bedOf[runner] == bed ? moves : moves + 1);
         }
 
         private void weigh(int ground, int moves) {
@@ -1270,17 +1266,21 @@ public final class StoneWed {
                 return 0;
             }
             leave(body);
+            return given(body, depth + 1);
+        }
+
+        private int given(int body, int depth) {
             switch (body) {
                 case 10: return rock;
-                case 11: return begin(10, depth + 1) + asked(MARK_ASKED, depth + 1);
-                case 12: return -begin(11, depth + 1);
-                case 13: return begin(10, depth + 1) - 100;
-                case 14: return 2 * begin(13, depth + 1);
+                case 11: return begin(10, depth) + asked(MARK_ASKED, depth);
+                case 12: return -begin(11, depth);
+                case 13: return begin(10, depth) - 100;
+                case 14: return 2 * begin(13, depth);
                 case 20: return number;
-                case 21: return begin(20, depth + 1) + furrow;
-                case 22: return begin(21, depth + 1) - 1000;
-                case 23: return begin(20, depth + 1) - asked(SIZE_ASKED, depth + 1);
-                case 24: return 2 * begin(21, depth + 1);
+                case 21: return begin(20, depth) + furrow;
+                case 22: return begin(21, depth) - 1000;
+                case 23: return begin(20, depth) - asked(SIZE_ASKED, depth);
+                case 24: return 2 * begin(21, depth);
                 default: return 0;
             }
         }

@@ -6,8 +6,12 @@ import java.lang.reflect.Method;
 import java.lang.reflect.Modifier;
 import java.nio.file.Files;
 import java.nio.file.Path;
+import java.util.ArrayDeque;
+import java.util.Deque;
 import java.util.List;
+import java.util.Map;
 import java.util.Set;
+import java.util.TreeMap;
 import java.util.TreeSet;
 import java.util.regex.Matcher;
 import java.util.regex.Pattern;
@@ -24,7 +28,8 @@ public final class LanguageTest {
             "System.arraycopy", "Math.abs", "Math.max", "Math.min", "Math.floorDiv", "Math.floorMod");
     private static final String[] NOT_WRITTEN = {
             "\\bthrow\\b", "\\btry\\b", "\\bcatch\\b", "\\bsynchronized\\b", "\\bassert\\b", "->", "::",
-            "\\bnew\\s+\\w+\\s*\\([^)]*\\)\\s*\\{", "\\bpackage\\b", "\\bObject\\b", "Exact\\b"};
+            "\\bnew\\s+\\w+\\s*\\([^)]*\\)\\s*\\{", "\\bpackage\\b", "\\bObject\\b", "Exact\\b",
+            "\\bthis\\b(?!\\.)", "\\b(double|float)\\b", "\\b(equals|hashCode|toString)\\b"};
 
     private static boolean good = true;
 
@@ -109,11 +114,43 @@ public final class LanguageTest {
                     imports.group());
         }
         library(code);
+        methods(code);
+    }
+
+    private static void methods(String code) {
         // A method of the file ends with the brace that stands as far in as its head.
-        Matcher methods = Pattern.compile("(?m)^( {4}| {8})(?! )[^\n]*\\([^\n]*\\) \\{\n(?s:.*?)\n\\1\\}$").matcher(code);
+        Matcher methods = Pattern.compile(
+                "(?m)^( {4}| {8})(?! )([^\n(]*?)(\\w+)\\([^\n]*\\) \\{\n((?s:.*?)\n)?\\1\\}$").matcher(code);
+        Map<String, Set<String>> calls = new TreeMap<>();
         while (methods.find()) {
-            check(methods.group().lines().count() <= 60, "some sixty lines: " + methods.group().lines().findFirst());
+            String name = methods.group(3);
+            check(methods.group().lines().count() <= 60, "some sixty lines: " + name);
+            Set<String> called = new TreeSet<>();
+            Matcher call = Pattern.compile("(\\bnew )?\\b(\\w+)\\(").matcher(methods.group(4) == null ? "" : methods.group(4));
+            while (call.find()) {
+                called.add(call.group(2));
+            }
+            check(!called.contains(name) || methods.group(2).contains("private static"), name + " calls itself, but is not static");
+            check(calls.put(name, called) == null, name + " is the name of one method alone, so that calls can be told apart");
         }
+        check(calls.size() > FACE.size(), "the methods of the source are found");
+        for (String open : calls.keySet()) {
+            int deep = deepest(open, calls, new ArrayDeque<>());
+            check(deep <= 8, "at most eight deep, not " + deep + " from " + open);
+        }
+    }
+
+    /** How many calls stand open at once at most, a recursion's own turns counted once. */
+    private static int deepest(String name, Map<String, Set<String>> calls, Deque<String> open) {
+        int below = 0;
+        open.push(name);
+        for (String called : calls.getOrDefault(name, Set.of())) {
+            if (!open.contains(called) && !Set.of("if", "for", "while", "switch").contains(called)) {
+                below = Math.max(below, deepest(called, calls, open));
+            }
+        }
+        open.pop();
+        return below + 1;
     }
 
     private static void library(String code) {
